@@ -89,6 +89,13 @@ public final class ErrorsTest {
         works("event events; event even; event eventt; event minmax; event not1;");
         works("event abcdefghij; event abcdefghii; event abcdefgiij; event bbcdefghij; event a; event a0; event a00;");
         fails("event abcdefghij; event abcdefghij;", 2, 24);
+        String signs = "abcdefghijklmnopqrstuvwxyz0123456789";
+        for (char sign : signs.toCharArray()) {
+            for (char other : signs.toCharArray()) {
+                fails("event y" + sign + "5; event y" + other + "5;", sign == other ? 2 : 0, sign == other ? 17 : -1);
+            }
+        }
+        works("event a0; event dl; event z9; event z; event b; event ba; event aa; event aaa;");
         for (String keyword : KEYWORDS) {
             fails("event " + keyword + ";", 1, 6);
             fails("teller " + keyword + ";", 1, 7);

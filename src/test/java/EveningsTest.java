@@ -12,6 +12,7 @@ public final class EveningsTest {
         factsChangeWithDoubts();
         evenings();
         ordersByTurns();
+        ordersWithoutTests();
         carriedOut();
         eveningsAreRefused();
         liarsAfter();
@@ -148,6 +149,8 @@ public final class EveningsTest {
         holds("doubted t", false);
         holds("agreed e", true);
         holds("agreed f", false);
+        StoryTapestry hour = Check.taught("event e; teller t; teller u; tells t e at 3 to 5; tells u e at 5 to 9; doubt u when agreed e;");
+        Check.same("passEvenings(1) with a window of one hour", hour.passEvenings(1), 1);
         StoryTapestry last = Check.taught("event a; event b; event c; event d; event g; event h; event i; event j;"
                 + "teller t0; teller t1; teller t2; teller t3; teller t4; teller t5; teller t6; teller t7; teller t8; teller t9;"
                 + "tells t9 j at 4 to 6; tells t8 j at 7; tells t9 i at 4 to 6;"
@@ -196,6 +199,27 @@ public final class EveningsTest {
         Check.same("passEvenings(1) of tests of several orders", same.passEvenings(1), 4);
         Check.no("isDoubted(3) behind them", same.isDoubted(3));
         Check.yes("isDoubted(0) behind them", same.isDoubted(0));
+    }
+
+    private static void ordersWithoutTests() {
+        for (int free = 0; free < 16; free++) {
+            StringBuilder text = new StringBuilder(HEAD);
+            for (int n = 0; n < 16; n++) {
+                text.append(n == free ? "doubt z; " : "doubt s when 1 = 2; ");
+            }
+            StoryTapestry x = Check.taught(text.toString());
+            Check.same("passEvenings(1) with the free order " + free, x.passEvenings(1), 1);
+            Check.yes("isDoubted(3) with the free order " + free, x.isDoubted(3));
+            Check.same("teach() of a free order alone", Check.teach(x, "teller t; doubt t;"), 0);
+            Check.same("passEvenings(1) of a free order alone", x.passEvenings(1), 1);
+        }
+        StoryTapestry x = new StoryTapestry();
+        String sum = "1" + " + 1".repeat(90);
+        for (int n = 0; n < 6; n++) {
+            String text = "teller t; teller u; doubt u when 1 = 2; doubt t when " + sum + " = " + (91 - n % 2) + ";";
+            Check.same("teach() of a long sum", Check.teach(x, text), 0);
+            Check.same("passEvenings(1) of a long sum", x.passEvenings(1), 1 - n % 2);
+        }
     }
 
     private static void carriedOut() {
@@ -268,7 +292,6 @@ public final class EveningsTest {
         Check.same("evenings()", x.evenings(), 2);
         Check.same("ordersCarriedOut()", x.ordersCarriedOut(), 2);
         Check.same("passEvenings(3)", x.passEvenings(3), 5);
-        Check.same("liars()", x.liars(), x.liars());
     }
 
     private static void bestToDoubt() {
@@ -340,7 +363,7 @@ public final class EveningsTest {
     private static void digest() {
         StoryTapestry none = new StoryTapestry();
         Check.same("digest() of a new object", none.digest(), digestOf(none));
-        Check.same("digest() of a new object, reckoned by hand", none.digest(), 991L * 26439622160671L + 31 + 1 - 0);
+        Check.same("digest() of a new object, reckoned by hand", none.digest(), 991L * 26439622160671L + 31 + 1);
         StoryTapestry x = Check.taught(HEAD + "doubt s when evening = 1; believe s when evening = 3; doubt u when liar u;");
         for (int n = 0; n < 5; n++) {
             Check.same("digest() behind " + n, x.digest(), digestOf(x));

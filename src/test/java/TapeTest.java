@@ -8,6 +8,7 @@ public final class TapeTest {
         feedAtTheVeryEdge();
         trimKeepsTheFirstBytes();
         trimIsRefused();
+        nothingIsReadBeyondTheLength();
         teachEmptiesTheTape();
         Check.end();
     }
@@ -113,6 +114,21 @@ public final class TapeTest {
         Check.same("trim(8) behind it", x.trim(8), 8);
         Check.same("teach()", x.teach(), 0);
         Check.same("events()", x.events(), 1);
+    }
+
+    private static void nothingIsReadBeyondTheLength() {
+        String start = "event e; teller t; tells t e at 12 to 34; doubt t when 1 <= liars ;    ";
+        for (int length = 0; length < start.length(); length++) {
+            StoryTapestry x = new StoryTapestry();
+            StoryTapestry y = new StoryTapestry();
+            Check.write(x, start);
+            x.trim(length);
+            Check.write(y, start.substring(0, length));
+            String what = " of " + start.substring(0, length);
+            Check.same("teach()" + what, x.teach(), y.teach());
+            Check.same("errorAt()" + what, x.errorAt(), y.errorAt());
+            Check.same("digest()" + what, x.digest(), y.digest());
+        }
     }
 
     private static void teachEmptiesTheTape() {

@@ -13,6 +13,7 @@ public final class TellersTest {
         theFirstIsSparedWhereItCanBe();
         liarsOfAChain();
         manySmallestSets();
+        setsBehindEveryChange();
         tellersAreRefused();
         Check.end();
     }
@@ -175,6 +176,27 @@ public final class TellersTest {
             text.append("tells t").append(9 - n).append(" ").append((char) ('a' + n)).append(" at 2;");
         }
         liars("five pairs", Check.taught(text.toString()), "56789", 32);
+    }
+
+    private static void setsBehindEveryChange() {
+        StoryTapestry x = pairs(4, "01 23");
+        Check.same("smallestSets() at first", x.smallestSets(), 4);
+        x.turnDoubt(0);
+        Check.same("smallestSets() behind a doubt", x.smallestSets(), 2);
+        x.takeBack(3);
+        Check.same("smallestSets() behind a claim less", x.smallestSets(), 1);
+        x.turnDoubt(0);
+        Check.same("smallestSets() behind a belief", x.smallestSets(), 2);
+        x.claimHours(1, 0, 1, 1);
+        x.claimHours(2, 0, 2, 2);
+        Check.same("smallestSets() behind claims more", x.smallestSets(), 1);
+        Check.yes("isLiar(1) behind claims more", x.isLiar(1));
+        Check.teach(x, "");
+        Check.same("smallestSets() behind teach()", x.smallestSets(), 1);
+        StoryTapestry y = Check.taught("event e; teller s; teller t; teller u; tells s e at 1; tells t e at 2; tells u e at 3; doubt u;");
+        Check.same("smallestSets() ahead of an evening", y.smallestSets(), 3);
+        y.passEvenings(1);
+        Check.same("smallestSets() behind an evening", y.smallestSets(), 2);
     }
 
     private static String tellers(int count) {
