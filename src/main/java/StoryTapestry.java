@@ -71,12 +71,15 @@ public final class StoryTapestry {
     private int errorPlace;
 
     public StoryTapestry() {
-        tape = new Row(MOST_BYTES);
-        reader = new Reader(tape);
-        told = new Tapestry();
-        verdict = new Verdict(told);
-        course = new Course(told, verdict);
-        trial = new Course(told, verdict);
+        Row bytes = new Row(MOST_BYTES);
+        Tapestry tapestry = new Tapestry();
+        Verdict judge = new Verdict(tapestry);
+        tape = bytes;
+        reader = new Reader(bytes);
+        told = tapestry;
+        verdict = judge;
+        course = new Course(tapestry, judge);
+        trial = new Course(tapestry, judge);
         tapeSize = 0;
         errorPlace = -1;
     }
