@@ -78,6 +78,17 @@ final class Check {
         return x;
     }
 
+    /** A new object that is taught the text answers this error, at this place. */
+    static void fails(String text, int error, int place) {
+        StoryTapestry x = new StoryTapestry();
+        same("teach() of " + text, teach(x, text), error);
+        same("errorAt() of " + text, x.errorAt(), place);
+    }
+
+    static void works(String text) {
+        fails(text, 0, -1);
+    }
+
     static void end() {
         System.out.println(checks + " checks, " + wrong + " wrong");
         if (wrong != 0) {

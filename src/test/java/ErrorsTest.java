@@ -28,19 +28,9 @@ public final class ErrorsTest {
         Check.end();
     }
 
-    private static void fails(String text, int error, int place) {
-        StoryTapestry x = new StoryTapestry();
-        Check.same("teach() of " + text, Check.teach(x, text), error);
-        Check.same("errorAt() of " + text, x.errorAt(), place);
-    }
-
-    private static void works(String text) {
-        fails(text, 0, -1);
-    }
-
     private static void test(String test, int place) {
         String start = HEAD + "doubt s when ";
-        fails(start + test + ";", place < 0 ? 0 : 1, place < 0 ? -1 : start.length() + place);
+        Check.fails(start + test + ";", place < 0 ? 0 : 1, place < 0 ? -1 : start.length() + place);
     }
 
     private static String times(int n, String text) {
@@ -48,9 +38,9 @@ public final class ErrorsTest {
     }
 
     private static void emptyTapes() {
-        works("");
-        works(" ");
-        works(" \n\n  ");
+        Check.works("");
+        Check.works(" ");
+        Check.works(" \n\n  ");
         StoryTapestry x = new StoryTapestry();
         Check.same("teach() of an error", Check.teach(x, "  event e; event"), 1);
         Check.same("errorAt()", x.errorAt(), 16);
@@ -59,66 +49,66 @@ public final class ErrorsTest {
     }
 
     private static void bytesAndBlanks() {
-        works("event\ne\n;\n\n  event  f;");
-        works("event e;event f;teller s;tells s e at 3;tells s e before f;");
+        Check.works("event\ne\n;\n\n  event  f;");
+        Check.works("event e;event f;teller s;tells s e at 3;tells s e before f;");
         for (int sign = 0; sign < 256; sign++) {
             boolean begins = sign >= 'a' && sign <= 'z' || sign == ' ' || sign == '\n';
             if (!begins) {
-                fails("event e; " + (char) sign, 1, 9);
-                fails("event " + (char) sign, 1, 6);
+                Check.fails("event e; " + (char) sign, 1, 9);
+                Check.fails("event " + (char) sign, 1, 6);
             }
         }
-        fails("event\te;", 1, 5);
-        fails("event e;\r\n", 1, 8);
-        fails("Event e;", 1, 0);
-        fails("event eE;", 1, 7);
-        fails("event e\0;", 1, 7);
-        fails("event e_f;", 1, 7);
+        Check.fails("event\te;", 1, 5);
+        Check.fails("event e;\r\n", 1, 8);
+        Check.fails("Event e;", 1, 0);
+        Check.fails("event eE;", 1, 7);
+        Check.fails("event e\0;", 1, 7);
+        Check.fails("event e_f;", 1, 7);
     }
 
     private static void words() {
-        works("event abcdefghij;");
-        works("event a123456789;");
-        works("event z0az9;");
-        fails("event abcdefghijk;", 1, 6);
-        fails("event a1234567890;", 1, 6);
-        fails("event " + times(300, "q") + ";", 1, 6);
-        fails("evente;", 1, 0);
-        fails("eventeventevent e;", 1, 0);
-        fails("event 1a;", 1, 6);
-        works("event events; event even; event eventt; event minmax; event not1;");
-        works("event abcdefghij; event abcdefghii; event abcdefgiij; event bbcdefghij; event a; event a0; event a00;");
-        fails("event abcdefghij; event abcdefghij;", 2, 24);
+        Check.works("event abcdefghij;");
+        Check.works("event a123456789;");
+        Check.works("event z0az9;");
+        Check.fails("event abcdefghijk;", 1, 6);
+        Check.fails("event a1234567890;", 1, 6);
+        Check.fails("event " + times(300, "q") + ";", 1, 6);
+        Check.fails("evente;", 1, 0);
+        Check.fails("eventeventevent e;", 1, 0);
+        Check.fails("event 1a;", 1, 6);
+        Check.works("event events; event even; event eventt; event minmax; event not1;");
+        Check.works("event abcdefghij; event abcdefghii; event abcdefgiij; event bbcdefghij; event a; event a0; event a00;");
+        Check.fails("event abcdefghij; event abcdefghij;", 2, 24);
         String signs = "abcdefghijklmnopqrstuvwxyz0123456789";
         for (char sign : signs.toCharArray()) {
             for (char other : signs.toCharArray()) {
-                fails("event y" + sign + "5; event y" + other + "5;", sign == other ? 2 : 0, sign == other ? 17 : -1);
+                Check.fails("event y" + sign + "5; event y" + other + "5;", sign == other ? 2 : 0, sign == other ? 17 : -1);
             }
         }
-        works("event a0; event dl; event z9; event z; event b; event ba; event aa; event aaa;");
+        Check.works("event a0; event dl; event z9; event z; event b; event ba; event aa; event aaa;");
         for (String keyword : KEYWORDS) {
-            fails("event " + keyword + ";", 1, 6);
-            fails("teller " + keyword + ";", 1, 7);
+            Check.fails("event " + keyword + ";", 1, 6);
+            Check.fails("teller " + keyword + ";", 1, 7);
             if (keyword.length() < 10) {
-                works("event " + keyword + "x; teller " + keyword + "1;");
+                Check.works("event " + keyword + "x; teller " + keyword + "1;");
             }
         }
     }
 
     private static void numbers() {
         String tells = HEAD + "tells s e at ";
-        works(tells + "0;");
-        works(tells + "99;");
-        works(tells + "000099;");
-        fails(tells + "0000099;", 1, 53);
-        fails(tells + "9999999;", 1, 53);
-        fails(tells + times(200, "0") + ";", 1, 53);
-        works(tells + "3to 9;");
-        fails(tells + "3to9;", 1, 54);
-        fails(HEAD + "tells s e at3;", 1, 50);
+        Check.works(tells + "0;");
+        Check.works(tells + "99;");
+        Check.works(tells + "000099;");
+        Check.fails(tells + "0000099;", 1, 53);
+        Check.fails(tells + "9999999;", 1, 53);
+        Check.fails(tells + times(200, "0") + ";", 1, 53);
+        Check.works(tells + "3to 9;");
+        Check.fails(tells + "3to9;", 1, 54);
+        Check.fails(HEAD + "tells s e at3;", 1, 50);
         test("999999 = 999999", -1);
         test("999999 = 1000000", 9);
-        fails("event e; 7", 1, 9);
+        Check.fails("event e; 7", 1, 9);
     }
 
     private static void symbols() {
@@ -139,75 +129,75 @@ public final class ErrorsTest {
         test("1&2", 1);
         test("1%2=1", 1);
         test("{1=1}", 0);
-        fails(HEAD + "doubt s when 1<", 1, 55);
-        fails(HEAD + "doubt s when 1>=", 1, 56);
+        Check.fails(HEAD + "doubt s when 1<", 1, 55);
+        Check.fails(HEAD + "doubt s when 1>=", 1, 56);
     }
 
     private static void lines() {
-        fails(";", 1, 0);
-        fails("event e;;", 1, 8);
-        fails("e;", 1, 0);
-        fails("event", 1, 5);
-        fails("event   ", 1, 8);
-        fails("event;", 1, 5);
-        fails("event e", 1, 7);
-        fails("event e  \n", 1, 10);
-        fails("event e event f;", 1, 8);
-        fails("event e f;", 1, 8);
-        fails("event e, f;", 1, 7);
-        fails("teller", 1, 6);
-        fails("teller;", 1, 6);
-        fails("teller t", 1, 8);
-        fails("teller t u;", 1, 9);
+        Check.fails(";", 1, 0);
+        Check.fails("event e;;", 1, 8);
+        Check.fails("e;", 1, 0);
+        Check.fails("event", 1, 5);
+        Check.fails("event   ", 1, 8);
+        Check.fails("event;", 1, 5);
+        Check.fails("event e", 1, 7);
+        Check.fails("event e  \n", 1, 10);
+        Check.fails("event e event f;", 1, 8);
+        Check.fails("event e f;", 1, 8);
+        Check.fails("event e, f;", 1, 7);
+        Check.fails("teller", 1, 6);
+        Check.fails("teller;", 1, 6);
+        Check.fails("teller t", 1, 8);
+        Check.fails("teller t u;", 1, 9);
         for (String keyword : KEYWORDS) {
             boolean begins = "event teller tells doubt believe".contains(keyword) && !keyword.equals("or");
-            fails(keyword, 1, begins ? keyword.length() : 0);
+            Check.fails(keyword, 1, begins ? keyword.length() : 0);
         }
     }
 
     private static void claimLines() {
         String tells = HEAD + "tells";
-        fails(tells, 1, 45);
-        fails(tells + ";", 1, 45);
-        fails(tells + " s", 1, 47);
-        fails(tells + " s;", 1, 47);
-        fails(tells + " s at 3;", 1, 48);
-        fails(tells + " s e", 1, 49);
-        fails(tells + " s e;", 1, 49);
-        fails(tells + " s e 3;", 1, 50);
-        fails(tells + " s e f;", 1, 50);
-        fails(tells + " s e to 3;", 1, 50);
-        fails(tells + " s e at;", 1, 52);
-        fails(tells + " s e at e;", 1, 53);
-        fails(tells + " s e at -3;", 1, 53);
-        fails(tells + " s e at evening;", 1, 53);
-        fails(tells + " s e at 3 9;", 1, 55);
-        fails(tells + " s e at 3 to;", 1, 57);
-        fails(tells + " s e at 3 to e;", 1, 58);
-        fails(tells + " s e at 3 to 9 to 9;", 1, 60);
-        fails(tells + " s e at 3 before f;", 1, 55);
-        fails(tells + " s e before;", 1, 56);
-        fails(tells + " s e before 3;", 1, 57);
-        fails(tells + " s e before f to 3;", 1, 59);
-        fails(tells + " s e before f f;", 1, 59);
-        fails(tells + " s e with;", 1, 54);
-        fails(tells + " s e with at;", 1, 55);
-        fails(tells + " s e with f with e;", 1, 57);
-        works(tells + " s e at 3;tells t f at 3 to 3;tells s f before e;tells t e with f;");
+        Check.fails(tells, 1, 45);
+        Check.fails(tells + ";", 1, 45);
+        Check.fails(tells + " s", 1, 47);
+        Check.fails(tells + " s;", 1, 47);
+        Check.fails(tells + " s at 3;", 1, 48);
+        Check.fails(tells + " s e", 1, 49);
+        Check.fails(tells + " s e;", 1, 49);
+        Check.fails(tells + " s e 3;", 1, 50);
+        Check.fails(tells + " s e f;", 1, 50);
+        Check.fails(tells + " s e to 3;", 1, 50);
+        Check.fails(tells + " s e at;", 1, 52);
+        Check.fails(tells + " s e at e;", 1, 53);
+        Check.fails(tells + " s e at -3;", 1, 53);
+        Check.fails(tells + " s e at evening;", 1, 53);
+        Check.fails(tells + " s e at 3 9;", 1, 55);
+        Check.fails(tells + " s e at 3 to;", 1, 57);
+        Check.fails(tells + " s e at 3 to e;", 1, 58);
+        Check.fails(tells + " s e at 3 to 9 to 9;", 1, 60);
+        Check.fails(tells + " s e at 3 before f;", 1, 55);
+        Check.fails(tells + " s e before;", 1, 56);
+        Check.fails(tells + " s e before 3;", 1, 57);
+        Check.fails(tells + " s e before f to 3;", 1, 59);
+        Check.fails(tells + " s e before f f;", 1, 59);
+        Check.fails(tells + " s e with;", 1, 54);
+        Check.fails(tells + " s e with at;", 1, 55);
+        Check.fails(tells + " s e with f with e;", 1, 57);
+        Check.works(tells + " s e at 3;tells t f at 3 to 3;tells s f before e;tells t e with f;");
     }
 
     private static void orderLines() {
-        fails(HEAD + "doubt", 1, 45);
-        fails(HEAD + "doubt;", 1, 45);
-        fails(HEAD + "doubt s", 1, 47);
-        fails(HEAD + "doubt s t;", 1, 48);
-        fails(HEAD + "doubt s when", 1, 52);
-        fails(HEAD + "doubt s when;", 1, 52);
-        fails(HEAD + "doubt s 1=1;", 1, 48);
-        fails(HEAD + "doubt s when 1=1 when 1=1;", 1, 57);
-        fails(HEAD + "believe;", 1, 47);
-        fails(HEAD + "believe s believe t;", 1, 50);
-        works(HEAD + "doubt s;believe s;doubt s when 1=1;believe t when liar t;");
+        Check.fails(HEAD + "doubt", 1, 45);
+        Check.fails(HEAD + "doubt;", 1, 45);
+        Check.fails(HEAD + "doubt s", 1, 47);
+        Check.fails(HEAD + "doubt s t;", 1, 48);
+        Check.fails(HEAD + "doubt s when", 1, 52);
+        Check.fails(HEAD + "doubt s when;", 1, 52);
+        Check.fails(HEAD + "doubt s 1=1;", 1, 48);
+        Check.fails(HEAD + "doubt s when 1=1 when 1=1;", 1, 57);
+        Check.fails(HEAD + "believe;", 1, 47);
+        Check.fails(HEAD + "believe s believe t;", 1, 50);
+        Check.works(HEAD + "doubt s;believe s;doubt s when 1=1;believe t when liar t;");
     }
 
     private static void tests() {
@@ -333,7 +323,7 @@ public final class ErrorsTest {
         test(times(7, "-") + "(1)=1 or " + times(8, "-") + "(1)=1", 7 + 9 + 8);
         test(times(7, "-") + "(-1)=1", 8);
         test(times(7, "-") + "(1-1)*(2)=1", -1);
-        works(HEAD + times(16, "doubt s when " + times(8, "not ") + "liar s;"));
+        Check.works(HEAD + times(16, "doubt s when " + times(8, "not ") + "liar s;"));
     }
 
     /** An order that fills the tape up to so many tokens, behind the 3 of the teller. */
@@ -344,58 +334,58 @@ public final class ErrorsTest {
     }
 
     private static void tokenLimit() {
-        works(tokens(399));
-        works(tokens(400));
-        works(tokens(400) + "   \n ");
-        fails(tokens(401), 1, tokens(401).length() - 1);
-        fails(tokens(402), 1, tokens(402).length() - 2);
-        fails(tokens(400) + "  event e;", 1, tokens(400).length() + 2);
-        fails(tokens(400) + " !", 1, tokens(400).length() + 1);
-        fails(tokens(397) + "event e;", 0, -1);
-        fails(tokens(398) + "event e;", 1, tokens(398).length() + 7);
-        fails(tokens(399) + "event !", 1, tokens(399).length() + 6);
+        Check.works(tokens(399));
+        Check.works(tokens(400));
+        Check.works(tokens(400) + "   \n ");
+        Check.fails(tokens(401), 1, tokens(401).length() - 1);
+        Check.fails(tokens(402), 1, tokens(402).length() - 2);
+        Check.fails(tokens(400) + "  event e;", 1, tokens(400).length() + 2);
+        Check.fails(tokens(400) + " !", 1, tokens(400).length() + 1);
+        Check.fails(tokens(397) + "event e;", 0, -1);
+        Check.fails(tokens(398) + "event e;", 1, tokens(398).length() + 7);
+        Check.fails(tokens(399) + "event !", 1, tokens(399).length() + 6);
         String open = tokens(401).substring(0, tokens(401).length() - 1);
-        fails(open, 1, open.length());
-        fails(open + "  ", 1, open.length() + 2);
+        Check.fails(open, 1, open.length());
+        Check.fails(open + "  ", 1, open.length() + 2);
         String twice = "teller s;" + tokens(398);
-        fails(twice, 1, twice.length() - 1);
-        fails("teller s;" + tokens(397), 2, 16);
-        fails(times(1000, "; "), 1, 0);
-        fails(times(950, "("), 1, 0);
+        Check.fails(twice, 1, twice.length() - 1);
+        Check.fails("teller s;" + tokens(397), 2, 16);
+        Check.fails(times(1000, "; "), 1, 0);
+        Check.fails(times(950, "("), 1, 0);
     }
 
     private static void toldTwice() {
-        fails("event a; event a;", 2, 15);
-        fails("event a; event b; event c; event b;", 2, 33);
-        fails("teller a; teller a;", 2, 17);
-        works("event a; teller a; tells a a at 3; doubt a when agreed a and liar a;");
-        fails("event a; teller a; teller a;", 2, 26);
-        fails("event a; teller a; event a;", 2, 25);
-        fails("event a; event b; event c; event d; event e; event f; event g; event h; event a;", 2, 78);
-        fails("event a; event b; event c; event d; event e; event f; event g; event h; event i;", 4, 78);
+        Check.fails("event a; event a;", 2, 15);
+        Check.fails("event a; event b; event c; event b;", 2, 33);
+        Check.fails("teller a; teller a;", 2, 17);
+        Check.works("event a; teller a; tells a a at 3; doubt a when agreed a and liar a;");
+        Check.fails("event a; teller a; teller a;", 2, 26);
+        Check.fails("event a; teller a; event a;", 2, 25);
+        Check.fails("event a; event b; event c; event d; event e; event f; event g; event h; event a;", 2, 78);
+        Check.fails("event a; event b; event c; event d; event e; event f; event g; event h; event i;", 4, 78);
     }
 
     private static void notTold() {
-        fails("event e; teller t; tells u e at 3;", 3, 25);
-        fails("event e; teller t; tells e e at 3;", 3, 25);
-        fails("event e; teller t; tells t t at 3;", 3, 27);
-        fails("event e; teller t; tells t e before t;", 3, 36);
-        fails("event e; teller t; tells t e with f;", 3, 34);
-        fails("event e; teller t; tells t f with f;", 3, 27);
-        fails("event e; teller t; tells u f with f;", 3, 25);
-        fails("event e; tells t e at 3; teller t;", 3, 15);
-        fails("teller t; tells t e at 3; event e;", 3, 18);
-        fails(HEAD + "doubt e;", 3, 46);
-        fails(HEAD + "believe u;", 3, 48);
-        fails(HEAD + "doubt s when liar e;", 3, 58);
-        fails(HEAD + "doubt s when doubted e;", 3, 61);
-        fails(HEAD + "doubt s when agreed s;", 3, 60);
-        fails(HEAD + "doubt s when contradict e s;", 3, 64);
-        fails(HEAD + "doubt s when contradict s e;", 3, 66);
-        fails(HEAD + "doubt s when claims of e = 1;", 3, 63);
-        fails(HEAD + "doubt s when window of s = 1;", 3, 63);
-        fails(HEAD + "doubt s when 1 = window of q;", 3, 67);
-        fails("doubt s; teller s;", 3, 6);
+        Check.fails("event e; teller t; tells u e at 3;", 3, 25);
+        Check.fails("event e; teller t; tells e e at 3;", 3, 25);
+        Check.fails("event e; teller t; tells t t at 3;", 3, 27);
+        Check.fails("event e; teller t; tells t e before t;", 3, 36);
+        Check.fails("event e; teller t; tells t e with f;", 3, 34);
+        Check.fails("event e; teller t; tells t f with f;", 3, 27);
+        Check.fails("event e; teller t; tells u f with f;", 3, 25);
+        Check.fails("event e; tells t e at 3; teller t;", 3, 15);
+        Check.fails("teller t; tells t e at 3; event e;", 3, 18);
+        Check.fails(HEAD + "doubt e;", 3, 46);
+        Check.fails(HEAD + "believe u;", 3, 48);
+        Check.fails(HEAD + "doubt s when liar e;", 3, 58);
+        Check.fails(HEAD + "doubt s when doubted e;", 3, 61);
+        Check.fails(HEAD + "doubt s when agreed s;", 3, 60);
+        Check.fails(HEAD + "doubt s when contradict e s;", 3, 64);
+        Check.fails(HEAD + "doubt s when contradict s e;", 3, 66);
+        Check.fails(HEAD + "doubt s when claims of e = 1;", 3, 63);
+        Check.fails(HEAD + "doubt s when window of s = 1;", 3, 63);
+        Check.fails(HEAD + "doubt s when 1 = window of q;", 3, 67);
+        Check.fails("doubt s; teller s;", 3, 6);
     }
 
     private static void tooMany() {
@@ -403,55 +393,55 @@ public final class ErrorsTest {
         for (int n = 0; n < 10; n++) {
             tellers.append("teller t").append(n).append(";");
         }
-        works(tellers.toString());
-        fails(tellers + "teller u;", 4, tellers.length() + 7);
-        fails(tellers + "teller t9;", 2, tellers.length() + 7);
-        works("event a; event b; event c; event d; event e; event f; event g; event h;");
-        works("event a; event b; event c; event d; event e; event f; event g; event h; teller h; teller i;");
+        Check.works(tellers.toString());
+        Check.fails(tellers + "teller u;", 4, tellers.length() + 7);
+        Check.fails(tellers + "teller t9;", 2, tellers.length() + 7);
+        Check.works("event a; event b; event c; event d; event e; event f; event g; event h;");
+        Check.works("event a; event b; event c; event d; event e; event f; event g; event h; teller h; teller i;");
 
         String claims = HEAD + times(20, "tells s e at 1;") + times(10, "tells s e with f;") + times(10, "tells t f before e;");
-        works(claims);
-        fails(claims + "tells s e at 1;", 4, claims.length());
-        fails(claims + "tells q e at 1;", 4, claims.length());
-        fails(claims + "tells s e at 100;", 4, claims.length());
+        Check.works(claims);
+        Check.fails(claims + "tells s e at 1;", 4, claims.length());
+        Check.fails(claims + "tells q e at 1;", 4, claims.length());
+        Check.fails(claims + "tells s e at 100;", 4, claims.length());
         String fewer = HEAD + times(39, "tells s e at 1;");
-        fails(fewer + "tells q e at 1; tells s e at 1; tells s e at 1;", 3, fewer.length() + 6);
+        Check.fails(fewer + "tells q e at 1; tells s e at 1; tells s e at 1;", 3, fewer.length() + 6);
 
         String orders = HEAD + times(8, "doubt s;") + times(8, "believe t when liar t;");
-        works(orders);
-        fails(orders + "doubt s;", 4, orders.length());
-        fails(orders + "believe q;", 4, orders.length());
-        works(claims + times(16, "doubt t;"));
+        Check.works(orders);
+        Check.fails(orders + "doubt s;", 4, orders.length());
+        Check.fails(orders + "believe q;", 4, orders.length());
+        Check.works(claims + times(16, "doubt t;"));
     }
 
     private static void outOfRange() {
         String tells = HEAD + "tells s e at ";
-        works(tells + "0 to 99;");
-        works(tells + "99 to 99;");
-        fails(tells + "100;", 5, 53);
-        fails(tells + "999999 to 3;", 5, 53);
-        fails(tells + "3 to 100;", 5, 58);
-        fails(tells + "3 to 2;", 5, 58);
-        works(tells + "3 to 3;");
-        fails(tells + "100 to 100;", 5, 53);
-        fails(HEAD + "tells s e before e;", 5, 57);
-        fails(HEAD + "tells s f with f;", 5, 55);
-        works(HEAD + "doubt s when 100 = 999999;");
+        Check.works(tells + "0 to 99;");
+        Check.works(tells + "99 to 99;");
+        Check.fails(tells + "100;", 5, 53);
+        Check.fails(tells + "999999 to 3;", 5, 53);
+        Check.fails(tells + "3 to 100;", 5, 58);
+        Check.fails(tells + "3 to 2;", 5, 58);
+        Check.works(tells + "3 to 3;");
+        Check.fails(tells + "100 to 100;", 5, 53);
+        Check.fails(HEAD + "tells s e before e;", 5, 57);
+        Check.fails(HEAD + "tells s f with f;", 5, 55);
+        Check.works(HEAD + "doubt s when 100 = 999999;");
     }
 
     private static void senseComesFirst() {
-        fails("event a; event a; event", 1, 23);
-        fails("tells q w at 100 to 3; !", 1, 23);
-        fails("doubt q when liar w and 1", 1, 25);
-        fails(times(3, "event a;") + "a", 1, 24);
+        Check.fails("event a; event a; event", 1, 23);
+        Check.fails("tells q w at 100 to 3; !", 1, 23);
+        Check.fails("doubt q when liar w and 1", 1, 25);
+        Check.fails(times(3, "event a;") + "a", 1, 24);
     }
 
     private static void firstErrorCounts() {
-        fails("event a; tells t b at 100; event a;", 3, 15);
-        fails("event a; event a; tells t b at 100;", 2, 15);
-        fails("event a; teller t; tells t a at 100; tells u a at 1;", 5, 32);
-        fails("event a; teller t; tells t a at 9 to 3; doubt u;", 5, 37);
-        fails("event a; teller t; tells t b at 9 to 3; doubt u;", 3, 27);
-        fails("teller t; doubt t when liar u and 1 = window of v; teller t;", 3, 28);
+        Check.fails("event a; tells t b at 100; event a;", 3, 15);
+        Check.fails("event a; event a; tells t b at 100;", 2, 15);
+        Check.fails("event a; teller t; tells t a at 100; tells u a at 1;", 5, 32);
+        Check.fails("event a; teller t; tells t a at 9 to 3; doubt u;", 5, 37);
+        Check.fails("event a; teller t; tells t b at 9 to 3; doubt u;", 3, 27);
+        Check.fails("teller t; doubt t when liar u and 1 = window of v; teller t;", 3, 28);
     }
 }

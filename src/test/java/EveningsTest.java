@@ -341,21 +341,25 @@ public final class EveningsTest {
         for (long number : first) {
             d = d * 31 + number;
         }
-        for (int n = 0; n < x.claims(); n++) {
+        int claims = x.claims();
+        int tellers = x.tellers();
+        int events = x.events();
+        boolean ordered = x.hasOrder();
+        for (int n = 0; n < claims; n++) {
             d = ((d * 31 + x.tellerOf(n)) * 31 + x.kindOf(n)) * 31 + x.eventOf(n);
         }
-        for (int n = 0; n < x.tellers(); n++) {
+        for (int n = 0; n < tellers; n++) {
             d = ((d * 31 + x.claimsOf(n)) * 31 + (x.isDoubted(n) ? 1 : 0)) * 31 + (x.isLiar(n) ? 1 : 0);
-            for (int other = 0; other < x.tellers(); other++) {
+            for (int other = 0; other < tellers; other++) {
                 d = d * 31 + (x.doContradict(n, other) ? 1 : 0);
             }
         }
-        for (int n = 0; n < x.events(); n++) {
+        for (int n = 0; n < events; n++) {
             boolean agreed = x.isAgreed(n);
             d = d * 31 + (agreed ? 1 : 0);
             d = d * 31 + (agreed ? x.windowFrom(n) : -1);
             d = d * 31 + (agreed ? x.windowTo(n) : -1);
-            d = d * 31 + (x.hasOrder() ? x.eventAt(n) : -1);
+            d = d * 31 + (ordered ? x.eventAt(n) : -1);
         }
         return d;
     }

@@ -228,7 +228,7 @@ public final class OracleTest {
     }
 
     private void look() {
-        if (calls + 20 > MOST_CALLS) {
+        if (calls + 120 > MOST_CALLS) {
             return;
         }
         calls += 12;
