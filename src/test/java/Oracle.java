@@ -12,7 +12,10 @@ import java.util.TreeSet;
  * recogniser walks, tests are cut at their weakest sign, and the liars are looked for among all sets.
  */
 final class Oracle {
-    /** The depth d stands behind a name that carries it; N is one deeper. Rules that would be too deep are left out. */
+    /**
+     * The depth d stands behind a name that carries it; N is one deeper. Rules that would be too deep are left out: then
+     * the pair has none, so that of a min that is too deep the ( is the error, as the document names it, not the min.
+     */
     private static final String[] GRAMMAR = {
         "tapestry = ", "tapestry = line ; tapestry",
         "line = event name", "line = teller name", "line = tells name claim", "line = act name", "line = act name when test0",
@@ -25,8 +28,8 @@ final class Oracle {
         "sumD = productD", "sumD = productD plus sumD", "plus = +", "plus = -",
         "productD = valueD", "productD = valueD by productD", "by = *", "by = /",
         "valueD = number", "valueD = evening", "valueD = liars", "valueD = conflicts", "valueD = claims of name",
-        "valueD = window of name", "valueD = - valueN", "valueD = ( sumN )", "valueD = least ( sumN , sumN )",
-        "least = min", "least = max",
+        "valueD = window of name", "valueD = - valueN", "valueD = ( sumN )", "valueD = least pairD",
+        "pairD = ( sumN , sumN )", "least = min", "least = max",
     };
     private static final Set<String> KEYWORDS = new TreeSet<>(Arrays.asList(("event teller tells at to before with doubt"
             + " believe when evening liars conflicts doubted claims window of contradict liar agreed not and or min max").split(" ")));
